@@ -55,35 +55,35 @@ public final class JavaBridge {
     private static final int[] MEMBER_COUNTS = {10, 11, 5, 7};
 
     private static final int[] CELL_MEMBERS = {
-        UNIT, UNIT, INT, 0,
-        INT, UNIT, UNIT, 1,
-        INT, UNIT, INT, 1,
-        INT, UNIT, INT, 0,
-        UNIT, UNIT, LONG, 0,
-        UNIT, UNIT, REAL, 0,
-        ANY, UNIT, INT, 0,
-        INTS, UNIT, INT, 1,
-        ANY, UNIT, UNIT, 1,
-        UNIT, UNIT, ANY, 0,
-        UNIT, UNIT, TWICE, 0,
+        UNIT, UNIT, INT, 0, // get
+        INT, UNIT, UNIT, 1, // set
+        INT, UNIT, INT, 1, // add
+        INT, UNIT, INT, 0, // divide
+        UNIT, UNIT, LONG, 0, // wide
+        UNIT, UNIT, REAL, 0, // half
+        ANY, UNIT, INT, 0, // same
+        INTS, UNIT, INT, 1, // put
+        ANY, UNIT, UNIT, 1, // keep
+        UNIT, UNIT, ANY, 0, // kept
+        UNIT, UNIT, TWICE, 0, // self, of twices alone
     };
 
     private static final int[] SHELF_MEMBERS = {
-        INT, CELL, UNIT, 1,
-        INT, UNIT, CELL, 0,
-        UNIT, UNIT, INT, 0,
-        UNIT, UNIT, INT, 0,
-        INTS, UNIT, INT, 0,
+        INT, CELL, UNIT, 1, // put
+        INT, UNIT, CELL, 0, // at
+        UNIT, UNIT, INT, 0, // size
+        UNIT, UNIT, INT, 0, // sum
+        INTS, UNIT, INT, 0, // first
     };
 
     private static final int[] MAKER_MEMBERS = {
-        INT, UNIT, CELL, 1,
-        INT, UNIT, TWICE, 1,
-        INT, UNIT, SHELF, 1,
-        INT, UNIT, SHELF, 1,
-        INT, UNIT, INTS, 1,
-        UNIT, UNIT, INT, 0,
-        ANY, UNIT, TWICE, 0,
+        INT, UNIT, CELL, 1, // cell
+        INT, UNIT, TWICE, 1, // twice
+        INT, UNIT, SHELF, 1, // shelf
+        INT, UNIT, SHELF, 1, // shelf of twices
+        INT, UNIT, INTS, 1, // ints
+        UNIT, UNIT, INT, 0, // made
+        ANY, UNIT, TWICE, 0, // as
     };
 
     private final Slot[] slots = new Slot[PLACE_COUNT];
@@ -186,20 +186,21 @@ public final class JavaBridge {
             latestThrown = THROWN_NOTHING;
             return null;
         }
-        if (slot.thing instanceof Ints ints) {
-            if (ints.has(i)) {
-                return ints;
-            }
+        if (!(slot.thing instanceof Ints ints)) {
+            latestThrown = THROWN_CAST;
+            return null;
+        }
+        if (!ints.has(i)) {
             latestThrown = THROWN_INDEX;
             return null;
         }
-        latestThrown = THROWN_CAST;
-        return null;
+        return ints;
     }
 
     /**
-     * The bits are found by halving and doubling, which is exact here: the library's own function
-     * is not open to this program. No real in here is below 0.5 (but for 0) or above 2 to the 63.
+     * The bits are found by halving and doubling, which is exact here: the library's own function is
+     * not open to this program. Reals come of whole numbers and of their halves alone, so each is 0,
+     * or its size is 0.5 to 2 to the 63; none is less than that, negative zero, or no number.
      */
     private static long bitsOf(double real) {
         if (real == 0.0) {
@@ -443,7 +444,9 @@ public final class JavaBridge {
         }
 
         void holdThing(Thing newThing) {
-            hold(newThing == null ? UNIT : newThing.sort(), 0L, newThing);
+            kind = newThing == null ? UNIT : newThing.sort;
+            number = 0L;
+            thing = newThing;
         }
 
         void copyFrom(Slot other) {
@@ -532,12 +535,16 @@ public final class JavaBridge {
         }
     }
 
-    /** An object of the host. */
+    /** An object of the host; its sort is the narrowest kind that it is of. */
     private abstract static class Thing {
-        abstract int sort();
+        final int sort;
+
+        Thing(int sort) {
+            this.sort = sort;
+        }
 
         boolean isOf(int told) {
-            return told == ANY || told == sort();
+            return told == ANY || told == sort || (told == CELL && sort == TWICE);
         }
     }
 
@@ -545,13 +552,9 @@ public final class JavaBridge {
         int v;
         Thing kept;
 
-        Cell(int v) {
+        Cell(int sort, int v) {
+            super(sort);
             this.v = v;
-        }
-
-        @Override
-        int sort() {
-            return CELL;
         }
 
         int get() {
@@ -582,36 +585,23 @@ public final class JavaBridge {
             }
         }
 
-        private void putInto(Thing target, Answer out) {
-            if (target instanceof Ints ints) {
-                if (ints.has(v)) {
-                    ints.write(v, get());
-                    out.giveInt(v);
-                } else {
-                    out.fail(THROWN_INDEX);
-                }
-            } else {
+        private void putInto(Thing row, Answer out) {
+            if (!(row instanceof Ints ints)) {
                 out.fail(THROWN_NOTHING);
+            } else if (!ints.has(v)) {
+                out.fail(THROWN_INDEX);
+            } else {
+                ints.write(v, get());
+                out.giveInt(v);
             }
         }
     }
 
     private static final class Twice extends Cell {
         Twice(int v) {
-            super(v);
+            super(TWICE, v);
         }
 
-        @Override
-        int sort() {
-            return TWICE;
-        }
-
-        @Override
-        boolean isOf(int told) {
-            return told == TWICE || told == CELL || told == ANY;
-        }
-
-        @Override
         int get() {
             return 2 * v;
         }
@@ -622,13 +612,9 @@ public final class JavaBridge {
         private final boolean twicesOnly;
 
         Shelf(Cell[] cells, boolean twicesOnly) {
+            super(SHELF);
             this.cells = cells;
             this.twicesOnly = twicesOnly;
-        }
-
-        @Override
-        int sort() {
-            return SHELF;
         }
 
         void run(int m, Slot in, Thing second, Answer out) {
@@ -649,14 +635,10 @@ public final class JavaBridge {
         private void store(int i, Thing thing, Answer out) {
             if (!has(i)) {
                 out.fail(THROWN_INDEX);
-            } else if (thing instanceof Cell stored) {
-                if (twicesOnly && !stored.isOf(TWICE)) {
-                    out.fail(THROWN_STORE);
-                } else {
-                    cells[i] = stored;
-                }
+            } else if (twicesOnly && thing != null && !thing.isOf(TWICE)) {
+                out.fail(THROWN_STORE);
             } else {
-                cells[i] = null;
+                cells[i] = thing instanceof Cell stored ? stored : null;
             }
         }
 
@@ -683,25 +665,22 @@ public final class JavaBridge {
 
         /** The row is read ahead of the shelf, so its faults come first, of an empty shelf too. */
         private void findFirst(Thing row, Answer out) {
-            if (row instanceof Ints ints) {
-                if (ints.has(0)) {
-                    findFirstOf(ints.read(0), out);
-                } else {
-                    out.fail(THROWN_INDEX);
-                }
-            } else {
+            if (!(row instanceof Ints ints)) {
                 out.fail(THROWN_NOTHING);
+                return;
             }
-        }
-
-        private void findFirstOf(int v, Answer out) {
+            if (!ints.has(0)) {
+                out.fail(THROWN_INDEX);
+                return;
+            }
+            int wanted = ints.read(0);
             for (int i = 0; i < cells.length; i++) {
                 Cell looked = cells[i];
                 if (looked == null) {
                     out.fail(THROWN_NOTHING);
                     return;
                 }
-                if (looked.v == v) {
+                if (looked.v == wanted) {
                     out.giveInt(i);
                     return;
                 }
@@ -714,12 +693,8 @@ public final class JavaBridge {
         private final int[] cells;
 
         Ints(int[] cells) {
+            super(INTS);
             this.cells = cells;
-        }
-
-        @Override
-        int sort() {
-            return INTS;
         }
 
         boolean has(int i) {
@@ -747,7 +722,7 @@ public final class JavaBridge {
 
         void run(int m, Slot in, Answer out) {
             switch (m) {
-                case 0: giveNew(new Cell(in.asInt()), out); break;
+                case 0: giveNew(new Cell(CELL, in.asInt()), out); break;
                 case 1: giveNew(new Twice(in.asInt()), out); break;
                 case 2: makeShelf(in.asInt(), false, out); break;
                 case 3: makeShelf(in.asInt(), true, out); break;
