@@ -238,7 +238,8 @@ public final class JavaBridge {
     }
 
     public int declare(int word, int cls, int m, int a, int b, int out, int marks) {
-        if (!isWord(word) || !isMember(cls, m)) {
+        Word w = wordAt(word);
+        if (w == null || !isMember(cls, m)) {
             return NO_SUCH;
         }
         if (!areKinds(a, b, out) || marks < 0 || marks > ALL_MARKS) {
@@ -252,7 +253,7 @@ public final class JavaBridge {
         if (!marksFit(marks, a == INTS || b == INTS, out >= CELL, changes)) {
             return UNFIT;
         }
-        words[word].become(cls, m, a, b, out, marks);
+        w.become(cls, m, a, b, out, marks);
         return 1;
     }
 
@@ -368,12 +369,13 @@ public final class JavaBridge {
         return (marks & PURE) == 0 || !changes;
     }
 
+    private Word wordAt(int word) {
+        return isWord(word) ? words[word] : null;
+    }
+
     private Word declaredWord(int word) {
-        if (!isWord(word)) {
-            return null;
-        }
-        Word w = words[word];
-        return w.declared ? w : null;
+        Word w = wordAt(word);
+        return w != null && w.declared ? w : null;
     }
 
     private Slot lookedAt(int told, int place) {
@@ -388,7 +390,7 @@ public final class JavaBridge {
     }
 
     private void start(int cls) {
-        if (startedAs[cls] == 0) {
+        if (isClass(cls) && startedAs[cls] == 0) {
             startedCount++;
             startedAs[cls] = startedCount;
         }

@@ -18,6 +18,26 @@ final class Checks {
         due(what, is ? 1 : 0, 1);
     }
 
+    /** Two tellings of a whole state: where they differ, the first line that does is printed. */
+    static void alike(String what, String got, String want) {
+        asked++;
+        if (got.equals(want)) {
+            return;
+        }
+        wrong++;
+        String[] gotLines = got.split("\n");
+        String[] wantLines = want.split("\n");
+        int at = 0;
+        while (at < gotLines.length && at < wantLines.length && gotLines[at].equals(wantLines[at])) {
+            at++;
+        }
+        System.out.println(what + ": it tells " + lineOf(gotLines, at) + ", due is " + lineOf(wantLines, at));
+    }
+
+    private static String lineOf(String[] lines, int at) {
+        return at < lines.length ? lines[at] : "no more";
+    }
+
     /** What share() answers, or a number that it never answers where it throws as it should. */
     static final long NO_SHARE = Long.MAX_VALUE;
 
