@@ -137,8 +137,8 @@ public final class CallTest {
     }
 
     private static void edgesOfNumbers() {
-        JavaBridge x = withInts(MAX, MIN, 1, -1);
         for (int v : new int[] {MIN, MIN + 1, -3, -1, 0, 1, 3, 1 << 30, MAX - 1, MAX}) {
+            JavaBridge x = withInts(MAX, MIN, 1, -1);
             Bench.make(x, Bench.CELL, v, 4);
             Bench.make(x, Bench.TWICE, v, 5);
             comes(x, "get", 0, 0, 4, 0, v);

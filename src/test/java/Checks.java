@@ -45,8 +45,14 @@ final class Checks {
         try {
             return x.share();
         } catch (ArithmeticException e) {
+            // the machine's own exception of a division would tell this; the class must throw by itself
+            holds("17: share() throws by itself", !"/ by zero".equals(e.getMessage()));
             return NO_SHARE;
         }
+    }
+
+    static int askedSoFar() {
+        return asked;
     }
 
     static int wrongSoFar() {

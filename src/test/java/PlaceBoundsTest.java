@@ -215,6 +215,12 @@ public final class PlaceBoundsTest {
             x.number(0, kind, 0);
             Checks.due("6: a 0 is not NOTHING", x.same(0, Scene.EMPTY), 0);
         }
+        x.declare(0, 3, 6, 8, 0, 5, 1);
+        x.call(0, 0, Scene.EMPTY, 0, 0);
+        Checks.due("6: NOTHING that came of a call, NOTHING", x.same(0, Scene.EMPTY), 1);
+        x.number(1, 1, 5);
+        x.move(1, -1);
+        Checks.due("6: NOTHING that came of a call, NOTHING by move", x.same(0, 1), 1);
     }
 
     /** 6: or like numbers of one KIND (of REALS by bits). */

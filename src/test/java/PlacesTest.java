@@ -71,11 +71,12 @@ public final class PlacesTest {
         checkReal(x, (1L << 53) + 3);
         checkReal(x, -(1L << 54) - 2);
         for (int i = 0; i < 63; i++) {
-            checkReal(x, 1L << i);
-            checkReal(x, (1L << i) - 1);
-            checkReal(x, -(1L << i) - 1);
-            checkReal(x, 0x5a5a5a5a5a5a5a5aL >> i);
-            checkReal(x, -(0x7123456789abcdefL >> i));
+            JavaBridge y = new JavaBridge();
+            checkReal(y, 1L << i);
+            checkReal(y, (1L << i) - 1);
+            checkReal(y, -(1L << i) - 1);
+            checkReal(y, 0x5a5a5a5a5a5a5a5aL >> i);
+            checkReal(y, -(0x7123456789abcdefL >> i));
         }
     }
 

@@ -12,6 +12,7 @@ public final class WordBoundsTest {
         declareKindsAtBounds();
         declareWhatComes();
         declareMarksAtBounds();
+        declarePure();
         declareInPlaceOfWhatItWas();
         wordTells();
         wordCounts();
@@ -128,6 +129,19 @@ public final class WordBoundsTest {
         }
         Checks.due("11: MARKS just below", x.declare(0, 0, 9, 0, 0, 8, -1), -2);
         Checks.due("11: MARKS just above", x.declare(0, 0, 9, 0, 0, 8, 8), -2);
+    }
+
+    /** 4 of a MEMBER that changes something (1, 2, 7, 8 of CLASSES 0, 1; 0 of 2; 0 to 4 of 3): of each other one it may be. */
+    private static void declarePure() {
+        String[] changers = {"1278", "1278", "0", "01234"};
+        JavaBridge x = new JavaBridge();
+        for (int cls = 0; cls < 4; cls++) {
+            for (int m = 0; m < x.members(cls); m++) {
+                boolean changes = changers[cls].contains(String.valueOf(m));
+                int got = x.declare(0, cls, m, x.member(cls, m, 0), x.member(cls, m, 1), x.member(cls, m, 2), 4);
+                Checks.due("11: PURE of member " + m + " of " + cls, got, changes ? -3 : 1);
+            }
+        }
     }
 
     /** 11: A WORD is DECLARED, in place of what it was. */
@@ -296,6 +310,7 @@ public final class WordBoundsTest {
                 x.declare(0, 0, 9, 0, 0, out, 1);
                 Checks.due("13: nothing as " + out + ", MAY", x.call(0, Scene.CELL, 0, 0, to), 0);
                 Checks.due("13: NOTHING goes into the place", x.kind(to), 0);
+                Checks.due("6: it is like what was there at first", x.same(to, Scene.EMPTY), 1);
                 Checks.due("12: it did not throw", x.word(0, 5), 0);
                 Checks.due("15: nothing was thrown", x.latest(), 0);
             }

@@ -69,6 +69,7 @@ public final class WordsTest {
         for (int cls = 0; cls < 4; cls++) {
             for (int m = 0; m < MEMBERS[cls].length; m++) {
                 for (int told = 0; told < 9 * 9 * 9 * 8; told++) {
+                    x = told % 512 == 0 ? new JavaBridge() : x;
                     int a = told % 9;
                     int b = told / 9 % 9;
                     int out = told / 81 % 9;
